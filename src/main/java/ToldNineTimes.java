@@ -44,9 +44,9 @@ public final class ToldNineTimes {
         }
         acts = new Acts();
         sights = new Sights();
-        outlook = new Outlook();
         today = new Day();
         draft = new Day();
+        outlook = new Outlook(today);
     }
 
     // ---- the day
@@ -783,6 +783,10 @@ public final class ToldNineTimes {
         private Day day;
         private int wanted;
         private int limit;
+
+        private Outlook(Day today) {
+            day = today;
+        }
 
         /** Who knows it behind an hour's tellings at a set of places; -1: these may not be. */
         private int behind(int hour, int places, int known) {

@@ -21,7 +21,7 @@ public final class FaceTest {
         "int sight(int,int,boolean)", "int unsee()", "int rows(int)", "int keep(int)", "int again(int)",
     };
     private static final String[] RULED_OUT = {
-        "throw", "throws", "try", "catch", "synchronized", "assert", "->", "::", "@", "instanceof", "System.out",
+        "throw", "throws", "try", "catch", "synchronized", "assert", "->", "::", "@", "System.out",
         "currentTimeMillis", "nanoTime", "Random", "Thread", "protected", "goto", "native",
     };
 
