@@ -118,14 +118,10 @@ public final class OutlookTest {
         due("19 but not one that is away", x.spent(0, 3), 2);
         x.tell(0, 0);
         due("19 now one is left", x.spent(0, 2), 1);
-        Checks.remake(x, "D0P0-----P0-----P1-----P1-----P2-----N9023");
-        due("19 at more places in one hour", x.spent(0, 4), NONE);
+        Checks.remake(x, "D0P0-----P0-----P1-----P1-----P2-----N3002");
+        due("19 more is left than can be told", x.spent(0, 4), NONE);
         Checks.remake(x, "D0P0-----P0-----P1-----P1-----P2-----N2023");
-        due("19 at more places in one hour", x.spent(0, 4), NONE);
-        Checks.remake(x, "D0P0-----P0-----P1-----P1-----P2-----N202");
-        due("19 at one place only", x.spent(0, 4), NONE);
-        Checks.remake(x, "D0P0-----P0-----P1-----P1-----P2-----N20");
-        due("19 who knows it matters", x.spent(0, 4), NONE);
+        due("19 once at each place", x.spent(0, 4), NONE);
         Checks.remake(x, "D0P0-----P0-----P1-----P1-----P2-----N2002");
         due("19 two at once", x.spent(0, 4), 1);
     }
