@@ -73,7 +73,7 @@ final class PlainModel {
         return length;
     }
 
-    private static boolean isDay(String text) {
+    static boolean isDay(String text) {
         if (!text.matches("D[0-2](P[012-]{6}|N[0-9][0-9][0-5]*)*")) {
             return false;
         }
@@ -98,7 +98,7 @@ final class PlainModel {
     }
 
     /** Whether something behind it can make it a day. */
-    private static boolean canBecomeDay(String start) {
+    static boolean canBecomeDay(String start) {
         for (String tail : new String[] {"", "0", "00", "000", "0000", "00000", "000000", "D0"}) {
             if (isDay(start + tail)) {
                 return true;
