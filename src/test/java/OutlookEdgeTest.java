@@ -288,6 +288,7 @@ public final class OutlookEdgeTest {
             due("20 the friend is first, " + limit + " left", x.duel(0, 1), limit > 0 ? 1 : 0);
             due("20 it knows it, " + limit + " left", x.duel(0, 0), 1);
             due("20 where nobody knows it", x.duel(0, 2), 0);
+            due("20 nobody knows it at all", Checks.on("D0" + TWO + "N" + limit + "1").duel(0, 1), 0);
             Checks.hours(x, 5);
             due("20 gone by", x.duel(0, 1), 0);
             due("20 it knows it in hour 5", x.duel(0, 4), 1);
