@@ -8,6 +8,7 @@ import java.nio.file.Path;
 import java.util.Arrays;
 import java.util.Set;
 import java.util.TreeSet;
+import java.util.regex.Matcher;
 import java.util.regex.Pattern;
 
 /** The public face of the document, and those rules of LANGUAGE.md that can be read off the class. */
@@ -24,13 +25,17 @@ public final class FaceTest {
         "throw", "throws", "try", "catch", "synchronized", "assert", "->", "::", "@", "System.out",
         "currentTimeMillis", "nanoTime", "Random", "Thread", "protected", "goto", "native",
     };
+    private static final Pattern HEADER = Pattern.compile(
+        "( +)(?:public|private) (?:static )?((?:int|long|boolean|void) )?\\w+\\(.*\\) \\{");
 
     public static void main(String[] args) throws IOException {
         constants();
         methods();
         otherMembers();
         classesInside();
-        source(Files.readString(Path.of("src/main/java/ToldNineTimes.java")));
+        String text = Files.readString(Path.of("src/main/java/ToldNineTimes.java"));
+        source(text);
+        bodies(text.split("\n"));
         CHECKS.end();
     }
 
@@ -113,5 +118,25 @@ public final class FaceTest {
         }
         CHECKS.dueAll("signs 1 to 127", text.chars().allMatch(c -> c > 0 && c < 128));
         CHECKS.dueAll("no package", !code.contains("package "));
+    }
+
+    /** Rules 11 and 12: methods stay short, and what is made is made by constructors: no call makes an object. */
+    private static void bodies(String[] lines) {
+        int methods = 0;
+        for (int i = 0; i < lines.length; i++) {
+            Matcher header = HEADER.matcher(lines[i]);
+            if (header.matches()) {
+                methods++;
+                boolean constructor = header.group(2) == null;
+                int end = i;
+                while (!lines[end].equals(header.group(1) + "}")) {
+                    end++;
+                    boolean makes = lines[end].matches(".*\\bnew\\b.*") && !lines[end].strip().startsWith("/");
+                    CHECKS.dueAll("made in a call: " + lines[end], constructor || !makes);
+                }
+                CHECKS.dueAll("sixty lines at most: " + lines[i], end - i < 60);
+            }
+        }
+        CHECKS.dueAll("methods were found", methods > FACE.length);
     }
 }
